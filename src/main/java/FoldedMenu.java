@@ -13,7 +13,6 @@ public final class FoldedMenu {
     private static final int DISHES = 20;
     private static final int COURSES = 4;
     private static final int SEASON_COUNT = 4;
-    private static final int ALLERGEN_COUNT = 8;
     private static final int WAYS = 16;
     private static final int SLOTS = 2;
     private static final int STATES = 5;
@@ -147,8 +146,7 @@ public final class FoldedMenu {
     public int arrange() {
         history.record(state);
         findPrinted(state.menu);
-        state.menu.way = findBestWay();
-        fold.lay(printing, state.menu, state.menu.way);
+        state.menu.way = foldBestWay();
         return fold.difference();
     }
 
@@ -175,7 +173,8 @@ public final class FoldedMenu {
         }
         history.record(state);
         state.keep(slot);
-        return printedNow();
+        findPrinted(state.menu);
+        return printing.number;
     }
 
     /** Promise 10. */
@@ -188,7 +187,8 @@ public final class FoldedMenu {
         }
         history.record(state);
         state.bringBack(slot);
-        return printedNow();
+        findPrinted(state.menu);
+        return printing.number;
     }
 
     /** Promise 11. */
@@ -386,8 +386,7 @@ public final class FoldedMenu {
             return INVALID_ARGUMENT;
         }
         findPrinted(state.menu);
-        int way = findBestWay();
-        fold.lay(printing, state.menu, way);
+        int way = foldBestWay();
         switch (what) {
             case 0: return way;
             case 1: return fold.difference();
@@ -410,11 +409,6 @@ public final class FoldedMenu {
 
     // ---- helpers of the calls
 
-    private int printedNow() {
-        findPrinted(state.menu);
-        return printing.number;
-    }
-
     private void findPrinted(Menu menu) {
         printing.find(menu, menu.setting(SEASON), menu.setting(GUEST));
     }
@@ -424,8 +418,8 @@ public final class FoldedMenu {
         fold.lay(printing, state.menu, state.menu.way);
     }
 
-    /** Finds the best way for what printing has found last. */
-    private int findBestWay() {
+    /** Finds the best way for what printing has found last; fold is laid with it then. */
+    private int foldBestWay() {
         int best = 0;
         fold.lay(printing, state.menu, best);
         for (int way = 1; way < WAYS; way++) {
@@ -586,8 +580,8 @@ public final class FoldedMenu {
             if (isFull()) {
                 return NONE;
             }
+            values[dishes * DISH_VALUES + OFFER] = 1;
             dishes++;
-            change(dishes - 1, OFFER, 1);
             return dishes - 1;
         }
 
@@ -1112,7 +1106,6 @@ public final class FoldedMenu {
         /** Adds the dishes to the menu: how many, or -1000 minus the error position. */
         int readInto(Menu menu) {
             at = 0;
-            errorAt = 0;
             // One item more than there can be dishes, for the one that finds no room.
             for (int items = 0; items <= DISHES; items++) {
                 if (nextSign() == 0) {

@@ -12,6 +12,7 @@ public final class PromiseTest {
         newObject();
         addDish();
         removeDish();
+        removedIsGone();
         setDish();
         setCard();
         setSide();
@@ -24,11 +25,13 @@ public final class PromiseTest {
         load();
         loadErrors();
         loadRoom();
+        loadEnds();
         count();
         key();
         fill();
         card();
         dish();
+        fullSide();
         line();
         account();
         why();
@@ -142,6 +145,20 @@ public final class PromiseTest {
         x.removeDish(0);
         due("new one is on offer", plain(x, 0, 5), 0);
         due("on offer", x.dish(0, 6), 1);
+    }
+
+    private static void removedIsGone() {
+        FoldedMenu x = new FoldedMenu();
+        x.addDish(0, 10, 10, 15, 0, 1);
+        x.addDish(0, 10, 9999, 15, 255, 1);
+        x.removeDish(1);
+        due("printed", x.count(1), 1);
+        due("column", x.count(6), 2);
+        due("key", x.count(8), NONE);
+        due("for a guest", x.printedFor(0), 1);
+        due("best set", x.bestSet(0, 3, 4, 0), 10);
+        due("replacement", x.replacement(0), NONE);
+        due("no dish", x.dish(1, 8), INVALID);
     }
 
     private static void setDish() {
@@ -457,6 +474,24 @@ public final class PromiseTest {
         due("last", x.dish(19, 0), 2);
     }
 
+    /** What stood behind the text's end, or has no place behind it, is not read. */
+    private static void loadEnds() {
+        FoldedMenu x = new FoldedMenu();
+        write(x, "0:1$1999*299;");
+        String[] ends = {"0", "0:1", "0:1$1", "0:1$1*2", "0:1$1p", "0:1$1+a", "0:1$1+"};
+        for (String end : ends) {
+            write(x, "0123456789 psaw abcdefgh ;;;;");
+            write(x, end);
+            due("load " + end, x.load(), -1000 - end.length());
+            String full = " ".repeat(140 - end.length()) + end;
+            write(x, full);
+            due("load full " + end, x.load(), -1140);
+            due("text is kept", x.count(15), 140);
+        }
+        write(x, " ".repeat(134) + "0:1$1;");
+        due("a full text", x.load(), 1);
+    }
+
     private static void count() {
         FoldedMenu x = new FoldedMenu();
         for (int what : new int[] {-1, 16, MIN, MAX}) {
@@ -482,6 +517,12 @@ public final class PromiseTest {
         due("prices", x.count(12), 45 + 99 + 80);
         x.setCard(2, 1);
         due("limit 1", x.count(1), 2);
+        FoldedMenu y = new FoldedMenu();
+        int[] prices = {1, 9, 10, 99, 100, 999, 1000, 9999};
+        for (int i = 0; i < prices.length; i++) {
+            due("price", plain(y, i & 3, prices[i]), i);
+            due("column for " + prices[i], y.count(6), i / 2 + 1);
+        }
     }
 
     private static void key() {
@@ -617,6 +658,24 @@ public final class PromiseTest {
         x.setDish(0, 1, 99);
         x.setDish(0, 4, 255);
         due("108 + 3 + 4 = 115", x.dish(0, 7), 6);
+    }
+
+    private static void fullSide() {
+        FoldedMenu x = new FoldedMenu();
+        for (int i = 0; i < 20; i++) {
+            x.addDish(i / 5, 99, 9999, 15, 255, 5);
+        }
+        x.setCard(1, 20);
+        x.setCard(3, 2);
+        x.setSide(2, 0);
+        x.setSide(3, 0);
+        due("lines", x.count(2), 4 * 2 + 20 * 6 + 16 * 2);
+        due("the last dish", x.dish(19, 8), 154);
+        due("its last line", x.line(0, 159, 2), 5);
+        due("no line", x.line(0, 160, 2), NONE);
+        due("the key", x.count(3), 3);
+        due("its lines' weights", x.count(5), 8);
+        due("weight", x.count(4), 4 * 6 + 20 * 32);
     }
 
     private static void line() {
@@ -845,6 +904,8 @@ public final class PromiseTest {
         due("guest", x.bestSet(0, 3, 4, 2), NONE);
         due("the other side", x.bestSet(1, 3, 3, 2), 2);
         due("too narrow", x.bestSet(1, 3, 2, 2), NONE);
+        plain(x, 3, 9);
+        due("column 1", x.bestSet(1, 3, 1, 2), 16);
         x.setSide(1, 1);
         due("sides as they are now", x.bestSet(1, 7, 3, 2), 6);
         due("nothing changes", x.dish(3, 6), 0);
