@@ -983,7 +983,7 @@ public final class FoldedMenu {
         void find(Menu menu, int side, int lines, int column) {
             candidateCount = 0;
             lineBound = Math.min(lines, MOST_LINES);
-            forgetFrom(0);
+            forgetSets();
             best[0][0] = ALL_LEFT_OUT;
             for (int course = 0; course < COURSES; course++) {
                 if (sideIn(menu.way, course) == side) {
@@ -1035,7 +1035,7 @@ public final class FoldedMenu {
                     addCandidate(dish);
                 }
             }
-            endCourse();
+            endCourse(Math.min(limit, tried));
         }
 
         private static boolean isCandidate(Menu menu, int dish, int column) {
@@ -1062,17 +1062,17 @@ public final class FoldedMenu {
         }
 
         /** What the course has led to is where the next one begins, again with no dish of it. */
-        private void endCourse() {
-            for (int had = 1; had <= MOST_DISHES; had++) {
+        private void endCourse(int most) {
+            for (int had = 1; had <= most; had++) {
                 for (int lines = 0; lines <= lineBound; lines++) {
                     best[0][lines] = Math.max(best[0][lines], best[had][lines]);
+                    best[had][lines] = -1;
                 }
             }
-            forgetFrom(1);
         }
 
-        private void forgetFrom(int first) {
-            for (int had = first; had <= MOST_DISHES; had++) {
+        private void forgetSets() {
+            for (int had = 0; had <= MOST_DISHES; had++) {
                 for (int lines = 0; lines <= lineBound; lines++) {
                     best[had][lines] = -1;
                 }
